@@ -204,6 +204,8 @@ public final class PromisesTest {
         Check.same("right when revoked", x.pass(1, true), NONE);
         Check.same("wrong when revoked", x.pass(1, false), NONE);
         Check.same("still revoked", x.count(4), 1);
+        x.revoke(1, false);
+        Check.same("3 tries when not revoked any more", x.pass(1, false), 2);
         Check.same("another user's tries", x.pass(2, false), 2);
         x.revoke(2, true);
         Check.same("revoked by revoke", x.pass(2, true), NONE);
@@ -529,6 +531,10 @@ public final class PromisesTest {
         x.universal(p, 2, 0);
         may(x, 2, 5, 1, "A");
         Check.same("a yes without the mark", x.count(3), 0);
+        x.universal(p, 2, 1);
+        may(x, 2, 5, 1, "A");
+        Check.same("a yes with the mark of warning alone", x.count(3), 0);
+        x.universal(p, 2, 0);
         may(x, 2, 5, 3, "A");
         row("a no", x, 0, 2, 5, 3, 0, p);
         x.universal(p, 2, 3);
