@@ -1,4 +1,7 @@
-/** Counts and prints what is not as due. */
+import java.util.Set;
+import java.util.TreeSet;
+
+/** Counts and prints what is not as due, under the sentence of the document that asks for it. */
 final class Check {
     /** The exceptions' places among the answers, far from every answer of the document. */
     static final long ARGUMENT = Long.MIN_VALUE + 1;
@@ -9,10 +12,28 @@ final class Check {
         long answer();
     }
 
+    /** A call of the face with one argument left open. */
+    interface CallWith {
+        long answer(int number);
+    }
+
+    private static final Set<String> SENTENCES = new TreeSet<>();
+    private static String sentence = "";
+    private static boolean idle = false;
     private static int calls = 0;
     private static int wrong = 0;
 
     private Check() {
+    }
+
+    /** What follows tests these words of a promise. */
+    static void promise(int number, String words) {
+        open("promise " + number + ", '" + words + "': ");
+    }
+
+    /** What follows tests these words of the document's section Terms. */
+    static void term(String words) {
+        open("terms, '" + words + "': ");
     }
 
     static long told(boolean answer) {
@@ -32,9 +53,9 @@ final class Check {
 
     static void same(String what, long got, long due) {
         calls++;
+        idle = false;
         if (got != due) {
-            wrong++;
-            System.out.println(what + " answered " + text(got) + ", due is " + text(due));
+            fault(what + " answered " + text(got) + ", due is " + text(due));
         }
     }
 
@@ -50,17 +71,49 @@ final class Check {
         same(what, STATE, call);
     }
 
+    /** Outside lowest .. highest: the next numbers, the farthest, and those that a narrower type takes for inside. */
+    static void refusedOutside(String what, int lowest, int highest, CallWith call) {
+        int[] numbers = {lowest - 1, lowest - 2, highest + 1, Integer.MIN_VALUE, Integer.MAX_VALUE,
+            lowest + 256, lowest - 256, lowest + 65536, lowest - 65536};
+        for (int number : numbers) {
+            refused(what + " " + number, () -> call.answer(number));
+        }
+    }
+
     static void end(String test) {
-        System.out.println(test + ": " + calls + " answers looked at, " + wrong + " not as due");
+        closeSentence();
+        String of = SENTENCES.isEmpty() ? "" : SENTENCES.size() + " sentences, ";
+        System.out.println(test + ": " + of + calls + " answers looked at, " + wrong + " not as due");
         if (wrong != 0 || calls == 0) {
             System.exit(1);
         }
     }
 
-    private static String text(long answer) {
+    static String text(long answer) {
         if (answer == ARGUMENT) {
             return "throws.IllegalArgumentException";
         }
         return answer == STATE ? "throws.IllegalStateException" : Long.toString(answer);
+    }
+
+    private static void open(String words) {
+        closeSentence();
+        sentence = words;
+        idle = true;
+        if (!SENTENCES.add(words)) {
+            fault("the sentence is tested in two places");
+        }
+    }
+
+    private static void closeSentence() {
+        if (idle) {
+            fault("no answer is looked at");
+        }
+        idle = false;
+    }
+
+    private static void fault(String what) {
+        wrong++;
+        System.out.println(sentence + what);
     }
 }
