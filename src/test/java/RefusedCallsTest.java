@@ -3,7 +3,8 @@ import java.util.List;
 
 /**
  * 'What a call throws for changes nothing', call by call, and the answers that go with 'changing nothing': behind
- * the call an object tells all of its state as one of the same making does that has not had the call.
+ * the call an object tells its state as one of the same making does that has not had the call. Of full tables the
+ * first three groups and users and the first two profiles are told, so that an object stays within its 512 calls.
  */
 public final class RefusedCallsTest {
     private static final int NONE = ProfileRights.NONE;
